@@ -302,7 +302,7 @@ public final class BoundaryTest {
         due("write()", x.write(), 1);
     }
 
-    /** The bytes behind a code of 20000 bytes are faults of that code, and nothing is behind them. */
+    /** More than 512 calls: a long code, and bytes behind it as far as the limit lets them. */
     private static void readAtByteLimit() {
         Code code = head(2000, 0);
         for (int block = 0; block < 31; block++) {
@@ -312,9 +312,10 @@ public final class BoundaryTest {
         DeltaRows x = withBytes(code.bytes);
         due("read()", x.read(), 0);
         due("get(1999)", x.get(1999), MIN);
-        while (x.append(255)) {
-            checks++;
+        for (int k = code.size(); k < 20000; k++) {
+            due("append(255)", x.append(255), true);
         }
+        due("append(255) onto 20000", x.append(255), false);
         due("size()", x.size(), 20000);
         due("read() of 20000", x.read(), MORE);
         due("place()", x.place(), code.size());
@@ -329,8 +330,10 @@ public final class BoundaryTest {
         }
         dueBytes(x, want);
         for (int v = 0; v < 256; v++) {
-            x.setByte(5, v);
-            due("byteAt(5)", x.byteAt(5), v);
+            x = withBytes(v, 255 - v);
+            dueBytes(x, v, 255 - v);
+            due("setByte(0, " + (255 - v) + ")", x.setByte(0, 255 - v), true);
+            dueBytes(x, 255 - v, 255 - v);
         }
     }
 
@@ -794,6 +797,7 @@ public final class BoundaryTest {
     private static void noFault() {
         Code code = twoBlocks();
         DeltaRows x = withRow(1, 2, 3);
+        due("read() of no bytes", x.read(), CUT);
         refill(x, code.bytes);
         due("read()", x.read(), 0);
         due("place()", x.place(), NONE);
@@ -1194,10 +1198,25 @@ public final class BoundaryTest {
         }
         due("least(0)", x.least(0), -70);
         due("least(1)", x.least(1), MIN);
+        // Read more than once, so that no room inside is left that has not been used.
+        for (int i = 0; i < 3; i++) {
+            due("read()", x.read(), 0);
+        }
         refill(x, 2, 0, 2, 0, 0, 0, 0);
         due("read()", x.read(), 0);
         due("least(0)", x.least(0), 1);
         due("least(1), one that was", x.least(1), 0);
+        x = having(70);
+        x.write();
+        due("least(1)", x.least(1), 1);
+        x.clear();
+        putAll(x, 5, 7);
+        x.write();
+        due("least(0)", x.least(0), 2);
+        due("least(1), one that was", x.least(1), 0);
+        x.clear();
+        x.write();
+        due("least(0), one that was", x.least(0), 0);
     }
 
     private static void dueNoPart(DeltaRows x, int block, int part) {
@@ -1227,6 +1246,17 @@ public final class BoundaryTest {
             dueNoPart(x, -1, part);
         }
         dueTwoBlocks(x);
+        due("read()", x.read(), 0);
+        due("write()", x.write(), 53);
+        x.clear();
+        putAll(x, 5, 7);
+        x.write();
+        for (int part = 0; part < 4; part++) {
+            dueNoPart(x, 1, part);
+        }
+        x.clear();
+        x.write();
+        dueNoPart(x, 0, 0);
     }
 
     private static void startOfEmptyParts() {

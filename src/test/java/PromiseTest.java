@@ -145,13 +145,13 @@ public final class PromiseTest {
 
     private static void count() {
         DeltaRows x = new DeltaRows();
-        for (int i = 0; i < 300; i++) {
+        for (int i = 0; i < 200; i++) {
             due("count()", x.count(), i);
             x.put(i);
         }
-        due("count()", x.count(), 300);
+        due("count()", x.count(), 200);
         x.append(0);
-        due("count() after append", x.count(), 300);
+        due("count() after append", x.count(), 200);
         x.read();
         due("count() after read of none", x.count(), 0);
     }
