@@ -7,7 +7,11 @@ import java.util.Arrays;
 import java.util.Set;
 import java.util.TreeSet;
 
-/** The class has the document's face, and nothing else that another class could see. */
+/**
+ * The class has the document's face, and nothing else that another class could see; and what of the
+ * language's rules 1 and 5 can be seen from outside: names of private methods, classes inside, static
+ * fields.
+ */
 public final class FaceTest {
     private static final Set<String> FACE = new TreeSet<>(Arrays.asList(
             "public static final int DeltaRows.NONE",
@@ -53,6 +57,44 @@ public final class FaceTest {
         return seen;
     }
 
+    private static Set<String> publicNames() {
+        Set<String> names = new TreeSet<>();
+        for (Method method : DeltaRows.class.getDeclaredMethods()) {
+            if (isSeen(method)) {
+                names.add(method.getName());
+            }
+        }
+        return names;
+    }
+
+    private static Set<String> brokenRules() {
+        Set<String> broken = new TreeSet<>();
+        Set<String> publicNames = publicNames();
+        for (Class<?> inside : DeltaRows.class.getDeclaredClasses()) {
+            int modifiers = inside.getModifiers();
+            if (Modifier.isPublic(modifiers) || Modifier.isProtected(modifiers) || !Modifier.isStatic(modifiers)) {
+                broken.add(inside + " can be seen, or isn't static");
+            }
+            addStaticState(broken, inside);
+        }
+        addStaticState(broken, DeltaRows.class);
+        for (Method method : DeltaRows.class.getDeclaredMethods()) {
+            if (!isSeen(method) && publicNames.contains(method.getName())) {
+                broken.add(method + " bears the name of a public one");
+            }
+        }
+        return broken;
+    }
+
+    private static void addStaticState(Set<String> broken, Class<?> where) {
+        for (Field field : where.getDeclaredFields()) {
+            int modifiers = field.getModifiers();
+            if (Modifier.isStatic(modifiers) && !Modifier.isFinal(modifiers)) {
+                broken.add(field + " is static and not final");
+            }
+        }
+    }
+
     public static void main(String[] args) {
         Set<String> seen = seenMembers();
         Set<String> missing = new TreeSet<>(FACE);
@@ -61,9 +103,10 @@ public final class FaceTest {
         added.removeAll(FACE);
         int modifiers = DeltaRows.class.getModifiers();
         boolean isPublicFinal = Modifier.isPublic(modifiers) && Modifier.isFinal(modifiers);
-        if (!missing.isEmpty() || !added.isEmpty() || !isPublicFinal) {
+        Set<String> broken = brokenRules();
+        if (!missing.isEmpty() || !added.isEmpty() || !isPublicFinal || !broken.isEmpty()) {
             System.out.println("missing: " + missing + ", not of the document: " + added
-                    + ", public and final: " + isPublicFinal);
+                    + ", public and final: " + isPublicFinal + ", against the rules: " + broken);
             System.exit(1);
         }
         System.out.println("the face is as due");
